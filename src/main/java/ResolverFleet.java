@@ -265,7 +265,8 @@ public final class ResolverFleet {
         if (!zone.isUp) {
             return;
         }
-        for (int i = 0; i < course.freshCount; i++) {
+        int used = course.freshCount;
+        for (int i = 0; i < used; i++) {
             int name = course.freshNameAt(i);
             // An entry that took the place of the one used has too few hits of this query to be hot,
             // so the name alone tells whether the one used is still in the cache.

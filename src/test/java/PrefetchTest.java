@@ -12,6 +12,7 @@ public final class PrefetchTest {
         afterAFailure();
         notWhenItWasDropped();
         onceInACircle();
+        onlyWhatThisQueryUsed();
         CHECK.finish();
     }
 
@@ -147,5 +148,20 @@ public final class PrefetchTest {
         CHECK.same("24: no hits", fleet.hitsOf(0, 0), 0);
         CHECK.same("24: no hits of the other", fleet.hitsOf(0, 1), 0);
         CHECK.same("26: four in all", fleet.fetches(), 4);
+    }
+
+    private static void onlyWhatThisQueryUsed() {
+        ResolverFleet fleet = entryOf(40, 5, 30);
+        fleet.query(50, 9);
+        CHECK.same("27: another name's entry is hot", fleet.prefetches(), 0);
+        CHECK.same("19: the queried name alone", fleet.lastFetches(), 1);
+        CHECK.same("23: the hot one is left alone", fleet.left(0, 0), 10);
+        CHECK.same("24: the hot one has no hit", fleet.hitsOf(0, 0), 5);
+        ResolverFleet down = entryOf(40, 5, 30);
+        down.setAuthority(false);
+        down.query(50, 0);
+        down.setAuthority(true);
+        down.query(50, 9);
+        CHECK.same("27: used by the query before", down.prefetches(), 0);
     }
 }

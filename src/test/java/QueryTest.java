@@ -20,6 +20,7 @@ public final class QueryTest {
         authorityBackUp();
         queryRefuses();
         wouldAnswer();
+        wouldAnswerByTheCache();
         wouldAnswerTriesFetchesOut();
         wouldAnswerRefuses();
         CHECK.finish();
@@ -237,6 +238,25 @@ public final class QueryTest {
         fleet.setAuthority(false);
         CHECK.same("15: a failure", fleet.wouldAnswer(50, 0), ResolverFleet.FAILED);
         CHECK.same("29: nothing failed", fleet.failures(), 0);
+    }
+
+    private static void wouldAnswerByTheCache() {
+        ResolverFleet fleet = Fleets.oneSite();
+        fleet.setAddress(0, 7, 20);
+        fleet.query(50, 0);
+        fleet.setAddress(0, 8, 20);
+        fleet.pass(19);
+        CHECK.same("15: fresh", fleet.wouldAnswer(50, 0), 7);
+        CHECK.same("24: no hit", fleet.hitsOf(0, 0), 0);
+        fleet.pass(1);
+        CHECK.same("15: ended", fleet.wouldAnswer(50, 0), 8);
+        CHECK.same("22: not fetched", fleet.cachedValue(0, 0), 7);
+        fleet.setAuthority(false);
+        fleet.pass(99);
+        CHECK.same("15: stale", fleet.wouldAnswer(50, 0), 7);
+        CHECK.same("28: no stale answer", fleet.staleAnswers(), 0);
+        fleet.pass(1);
+        CHECK.same("15: too old", fleet.wouldAnswer(50, 0), ResolverFleet.FAILED);
     }
 
     /** The fetch for the alias drops its target, which has changed in the zone. */
