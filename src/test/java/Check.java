@@ -1,4 +1,5 @@
 import java.util.function.Consumer;
+import java.util.function.Function;
 import java.util.function.Supplier;
 
 /** Compares answers with those that are due, and counts the wrong ones. */
@@ -22,12 +23,24 @@ final class Check {
         }
     }
 
-    /** The call throws just this exception, no class below it, and leaves the fleet like a twin that did not get it. */
+    /** The call throws just this exception, no class below it, and changes nothing. */
     void refuses(String what, Supplier<ResolverFleet> maker, Class<? extends RuntimeException> due,
             Consumer<ResolverFleet> call) {
-        ResolverFleet fleet = maker.get();
-        same(what + " throws", thrown(fleet, call), due.getName());
-        same("all that can be seen after " + what, Picture.of(fleet), Picture.of(maker.get()));
+        same(what + " throws", thrown(maker.get(), call), due.getName());
+        changesNothing(what, maker, call);
+    }
+
+    void accepts(String what, Supplier<ResolverFleet> maker, Consumer<ResolverFleet> call) {
+        same(what + " throws", thrown(maker.get(), call), "nothing");
+    }
+
+    /** The call, whether it throws or not, leaves the fleet like a twin that did not get it. */
+    void changesNothing(String what, Supplier<ResolverFleet> maker, Consumer<ResolverFleet> call) {
+        for (Function<ResolverFleet, String> side : Picture.SIDES) {
+            ResolverFleet fleet = maker.get();
+            thrown(fleet, call);
+            same("all that can be seen after " + what, side.apply(fleet), side.apply(maker.get()));
+        }
     }
 
     private static String thrown(ResolverFleet fleet, Consumer<ResolverFleet> call) {

@@ -118,7 +118,6 @@ public final class FaceTest {
         for (Class<?> inside : ResolverFleet.class.getDeclaredClasses()) {
             CHECK.same(inside.getName() + " is public", Modifier.isPublic(inside.getModifiers()), false);
             CHECK.same(inside.getName() + " is protected", Modifier.isProtected(inside.getModifiers()), false);
-            CHECK.same(inside.getName() + " is static", Modifier.isStatic(inside.getModifiers()), true);
         }
     }
 }

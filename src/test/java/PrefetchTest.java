@@ -13,6 +13,8 @@ public final class PrefetchTest {
         notWhenItWasDropped();
         onceInACircle();
         onlyWhatThisQueryUsed();
+        onlyWhileTheAuthorityIsUp();
+        notByALookAtTheAnswer();
         CHECK.finish();
     }
 
@@ -163,5 +165,32 @@ public final class PrefetchTest {
         down.setAuthority(true);
         down.query(50, 9);
         CHECK.same("27: used by the query before", down.prefetches(), 0);
+    }
+
+    /** "is fetched anew if the authority is up": hot, it waits for the first query after it is up again. */
+    private static void onlyWhileTheAuthorityIsUp() {
+        ResolverFleet fleet = entryOf(40, 5, 30);
+        fleet.setAuthority(false);
+        CHECK.same("14: fresh while it is down", fleet.query(50, 0), 7);
+        CHECK.same("27: down", fleet.prefetches(), 0);
+        CHECK.same("19: down", fleet.lastFetches(), 0);
+        CHECK.same("24: down", fleet.hitsOf(0, 0), 6);
+        CHECK.same("17: down", fleet.lastWasStale(), false);
+        fleet.setAuthority(true);
+        CHECK.same("27: not without a query", fleet.prefetches(), 0);
+        CHECK.same("23: not without a query", fleet.left(0, 0), 10);
+        fleet.query(50, 0);
+        CHECK.same("27: up", fleet.prefetches(), 1);
+        CHECK.same("23: up", fleet.left(0, 0), 40);
+    }
+
+    private static void notByALookAtTheAnswer() {
+        ResolverFleet fleet = entryOf(40, 5, 30);
+        fleet.wouldAnswer(50, 0);
+        fleet.truth(0);
+        fleet.pass(1);
+        CHECK.same("27: no query", fleet.prefetches(), 0);
+        CHECK.same("24: no query", fleet.hitsOf(0, 0), 5);
+        CHECK.same("23: no query", fleet.left(0, 0), 9);
     }
 }

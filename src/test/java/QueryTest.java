@@ -98,17 +98,8 @@ public final class QueryTest {
         CHECK.same("24: hits at the second site", fleet.hitsOf(1, 0), 1);
     }
 
-    private static ResolverFleet sixEntries(int... timesToLive) {
-        ResolverFleet fleet = Fleets.oneSite();
-        for (int name = 0; name < 6; name++) {
-            fleet.setAddress(name, name + 1, timesToLive[name]);
-            fleet.query(50, name);
-        }
-        return fleet;
-    }
-
     private static void theOneThatEndsFirstIsDropped() {
-        ResolverFleet fleet = sixEntries(90, 80, 70, 60, 50, 65);
+        ResolverFleet fleet = Fleets.sixEntries(90, 80, 70, 60, 50, 65);
         CHECK.same("20: six entries", fleet.entries(0), 6);
         fleet.query(50, 15);
         CHECK.same("20: still six", fleet.entries(0), 6);
@@ -121,7 +112,7 @@ public final class QueryTest {
     }
 
     private static void ofSeveralTheLowestNameIsDropped() {
-        ResolverFleet fleet = sixEntries(60, 50, 40, 40, 40, 60);
+        ResolverFleet fleet = Fleets.sixEntries(60, 50, 40, 40, 40, 60);
         fleet.query(50, 9);
         fleet.flush(0, 9);
         CHECK.same("21: the lowest name", fleet.cachedKind(0, 2), ResolverFleet.NO_ENTRY);
@@ -133,7 +124,7 @@ public final class QueryTest {
     }
 
     private static void endedEntriesTakeRoom() {
-        ResolverFleet fleet = sixEntries(90, 80, 5, 6, 50, 65);
+        ResolverFleet fleet = Fleets.sixEntries(90, 80, 5, 6, 50, 65);
         fleet.pass(10);
         CHECK.same("20: ended entries stay", fleet.entries(0), 6);
         CHECK.same("22: an ended entry's value", fleet.cachedValue(0, 2), 3);
@@ -143,7 +134,7 @@ public final class QueryTest {
     }
 
     private static void ownEntryIsReplaced() {
-        ResolverFleet fleet = sixEntries(90, 80, 5, 60, 50, 65);
+        ResolverFleet fleet = Fleets.sixEntries(90, 80, 5, 60, 50, 65);
         fleet.pass(10);
         fleet.remove(5);
         fleet.query(50, 2);
@@ -220,11 +211,10 @@ public final class QueryTest {
 
     private static void wouldAnswer() {
         for (int name = 0; name < 16; name++) {
-            ResolverFleet asked = Fleets.busy();
-            ResolverFleet twin = Fleets.busy();
-            int would = asked.wouldAnswer(20, name);
+            int asked = name;
+            int would = Fleets.busy().wouldAnswer(20, name);
             CHECK.same("15: what query answers of " + name, would, Fleets.busy().query(20, name));
-            CHECK.same("15: all that can be seen", Picture.of(asked), Picture.of(twin));
+            CHECK.changesNothing("15: wouldAnswer of " + name, Fleets::busy, f -> f.wouldAnswer(20, asked));
         }
         ResolverFleet fleet = Fleets.oneSite();
         fleet.setAddress(0, 7, 20);
@@ -261,7 +251,7 @@ public final class QueryTest {
 
     /** The fetch for the alias drops its target, which has changed in the zone. */
     private static void wouldAnswerTriesFetchesOut() {
-        ResolverFleet fleet = sixEntries(60, 50, 40, 40, 70, 90);
+        ResolverFleet fleet = Fleets.sixEntries(60, 50, 40, 40, 70, 90);
         fleet.setAlias(6, 2, 100);
         fleet.setAddress(2, 33, 20);
         CHECK.same("15: the target is fetched anew", fleet.wouldAnswer(50, 6), 33);
